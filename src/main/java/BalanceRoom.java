@@ -263,7 +263,7 @@ public final class BalanceRoom {
         }
     }
 
-    /** What can be done with numbers of one sort. Every number is held as its bits; those of 32 bits as an int's value. */
+    /** What can be done with numbers of one sort. A number is held as its bits; one of 32 bits as an int's value. */
     private abstract static class Sort {
         private final boolean narrow;
 
@@ -389,7 +389,7 @@ public final class BalanceRoom {
      * keep -0.0 apart from 0.0. A finite number is its significand * 2^power, with its sign.
      */
     private static final class PointSort extends Sort {
-        /** Bits behind the last one while adding: two would do to round rightly, with a mark for all that fell off. */
+        /** Bits behind the last one while adding; three would do to round rightly, the lowest marking what fell off. */
         private static final int SPARE_BITS = 8;
         /** Every significand here is below 2^62, so shifted further down it is less than a half. */
         private static final int LONGEST_SHIFT = 62;
@@ -461,7 +461,7 @@ public final class BalanceRoom {
         }
 
         long part(long v) {
-            return isInfinite(v) ? signed(v < 0, 0) : sum(v, turned(down(v)));
+            return isInfinite(v) ? signed(v < 0, 0) : sum(v, turned(cut(v, v < 0)));
         }
 
         long sum(long v, long w) {
@@ -503,7 +503,7 @@ public final class BalanceRoom {
         }
 
         private int exponentField(long v) {
-            return (int) (size(v) >>> fractionBits);
+            return (int) (v >>> fractionBits) & infiniteField;
         }
 
         private long significand(long v) {

@@ -8,13 +8,7 @@ final class Check {
     private int wrong = 0;
 
     void due(String call, long want, Call code) {
-        String got;
-        try {
-            got = Long.toString(code.answer());
-        } catch (RuntimeException e) {
-            got = e.getClass().getSimpleName();
-        }
-        compare(call, Long.toString(want), got);
+        compare(call, Long.toString(want), outcome(code));
     }
 
     void argument(String call, Call code) {
@@ -51,13 +45,15 @@ final class Check {
     }
 
     private void dueThrow(String call, Class<? extends RuntimeException> want, Call code) {
-        String got;
+        compare(call, want.getSimpleName(), outcome(code));
+    }
+
+    static String outcome(Call code) {
         try {
-            got = Long.toString(code.answer());
+            return Long.toString(code.answer());
         } catch (RuntimeException e) {
-            got = e.getClass().getSimpleName();
+            return e.getClass().getSimpleName();
         }
-        compare(call, want.getSimpleName(), got);
     }
 
     static long bits(float v) {

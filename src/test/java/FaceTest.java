@@ -11,7 +11,8 @@ public final class FaceTest {
         "public static final int BalanceRoom.NONE",
         "public BalanceRoom()",
         "public int BalanceRoom.read(int,long) throws java.lang.IllegalArgumentException",
-        "public int BalanceRoom.order(int,int) throws java.lang.IllegalArgumentException,java.lang.IllegalStateException",
+        "public int BalanceRoom.order(int,int) throws java.lang.IllegalArgumentException,"
+            + "java.lang.IllegalStateException",
         "public int BalanceRoom.wipe()",
         "public long BalanceRoom.show(int) throws java.lang.IllegalArgumentException,"
             + "java.lang.IllegalStateException,java.lang.ArithmeticException",

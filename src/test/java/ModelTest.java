@@ -147,15 +147,7 @@ public final class ModelTest {
         }
 
         private void same(String call, Check.Call one, Check.Call other) {
-            CHECK.compare("run " + number + ": " + call, answer(other), answer(one));
-        }
-
-        private static String answer(Check.Call call) {
-            try {
-                return Long.toString(call.answer());
-            } catch (RuntimeException e) {
-                return e.getClass().getSimpleName();
-            }
+            CHECK.compare("run " + number + ": " + call, Check.outcome(other), Check.outcome(one));
         }
     }
 
