@@ -271,7 +271,7 @@ public final class TermsTapeTest extends Sentences {
         throwsAndChangesNothing("IllegalArgumentException", 1, room -> room.look(0, 6));
     }
 
-    /** The tape is full; it is done on 14; its order 1 is refused on 12 for infinite ones, on 0 and 8 for their sorts. */
+    /** The tape is full and done on 14; its order 1 is refused on 12 for infinite ones, on 0 and 8 for their sorts. */
     private static BalanceRoom usedRoom() {
         BalanceRoom room = new BalanceRoom();
         for (int g = 0; g < 15; g++) {
