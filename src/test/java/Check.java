@@ -1,7 +1,7 @@
 /** What the tests share: a call with its due answer or its due exception, and the count of what went wrong. */
 final class Check {
     interface Call {
-        long answer();
+        Object answer();
     }
 
     private static final int MOST_TOLD_A_SENTENCE = 5;
@@ -85,7 +85,7 @@ final class Check {
 
     static String outcome(Call code) {
         try {
-            return Long.toString(code.answer());
+            return String.valueOf(code.answer());
         } catch (RuntimeException e) {
             return e.getClass().getSimpleName();
         }
